@@ -461,7 +461,8 @@ public final class Residentroll {
         if (act.so != NONE && act.after == null) {
             kept.happen(act);
         } else {
-            kept.find(acts, today, today);
+            kept.begin(acts, today);
+            kept.goOn(today);
         }
         return act.place;
     }
@@ -595,11 +596,13 @@ public final class Residentroll {
 
         private void goOn(int s) {
             reached = s;
-            for (; coming != null && coming.so <= s; coming = coming.after) {
-                if (coming.isKnownOn(known)) {
-                    happen(coming);
+            Act next = coming;
+            for (; next != null && next.so <= s; next = next.after) {
+                if (next.isKnownOn(known)) {
+                    happen(next);
                 }
             }
+            coming = next;
         }
 
         private void forget() {
@@ -710,7 +713,7 @@ public final class Residentroll {
         }
 
         private boolean isLiving(int person) {
-            return at(being, person) == LIVING;
+            return person >= 0 && person < being.length && being[person] == LIVING;
         }
 
         private boolean areTwoLiving(int person, int other) {

@@ -133,6 +133,11 @@ public final class FaceTest {
             for (Field each : inside.getDeclaredFields()) {
                 checkStatic(each);
             }
+            for (Method each : inside.getDeclaredMethods()) {
+                if (open.contains(each.getName())) {
+                    fault(each + " bears the name of a public one");
+                }
+            }
         }
     }
 

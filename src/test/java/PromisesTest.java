@@ -581,6 +581,13 @@ public final class PromisesTest {
         due(3, x.households(6, TODAY, TODAY));
         due(1, x.households(6, 9998, TODAY));
         due(1, x.households(9, 9998, TODAY));
+        // the lowest PERSON can be the child
+        Residentroll young = new Residentroll();
+        young.birth(9990, NONE, 6, 0);
+        young.birth(0, NONE, 6, 0);
+        young.tie(Residentroll.ADOPTION, 0, 1, 9995);
+        due(1, young.households(6, TODAY, TODAY));
+        due(0, young.now(1, 6));
         // the mother's own age and partner do not matter
         x.tie(Residentroll.PARTING, 3, 1, 9999);
         x.tie(Residentroll.BOND, 0, 3, 9999);
@@ -611,6 +618,7 @@ public final class PromisesTest {
         refused(INDEX, () -> x.money(4, -1, 0, -1));
         refused(INDEX, () -> x.money(-1, 0, 1, 0));
         refused(ARGUMENT, () -> x.money(0, -1, 1, 0));
+        refused(ARGUMENT, () -> x.money(0, -1, 2, 0));
         refused(ARGUMENT, () -> x.money(0, 10002, 1, 0));
         refused(ARGUMENT, () -> x.money(0, 0, 0, 0));
         refused(ARGUMENT, () -> x.money(0, 0, 61, 0));
@@ -701,6 +709,16 @@ public final class PromisesTest {
         x.strike(2);
         due(Residentroll.UNBORN, x.now(1, 0));
         due(NONE, x.origin(1, NONE));
+        // what is struck is not adopted, and has no mother by a BIRTH that does not count
+        Residentroll first = grown(3);
+        first.tie(Residentroll.ADOPTION, 0, 1, 9000);
+        due(HIDDEN, first.origin(0, 2));
+        first.strike(3);
+        due(NONE, first.origin(0, 2));
+        first.birth(9000, 1, 0, 0);
+        due(1, first.origin(3, 2));
+        first.strike(5);
+        due(NONE, first.origin(3, 2));
         Residentroll dead = grown(1);
         dead.birth(9000, 0, 0, 0);
         dead.death(1, 9001);
@@ -732,6 +750,13 @@ public final class PromisesTest {
         due(0, x.likeness(0, 1));
         x.strike(2);
         due(0, x.likeness(2, 3));
+        // who is UNBORN has no day to be near to
+        Residentroll early = grown(1);
+        early.birth(0, NONE, 0, 0);
+        early.strike(1);
+        due(0, early.likeness(0, 1));
+        due(0, early.likeness(1, 0));
+        due(NONE, early.doubleOf(1));
         refused(INDEX, () -> x.likeness(0, 4));
         refused(INDEX, () -> x.likeness(4, 4));
         refused(INDEX, () -> x.likeness(-1, 0));
@@ -1033,6 +1058,8 @@ public final class PromisesTest {
         x.bar(2, true);
         due(HIDDEN, x.look(1, 2));
         due(NONE, x.look(0, 2));
+        x.bar(0, true);
+        due(HIDDEN, x.look(2, 0));
         refused(INDEX, () -> x.look(4, 3));
         refused(INDEX, () -> x.look(0, -1));
         refused(ARGUMENT, () -> x.look(4, 0));
