@@ -11,7 +11,7 @@ import java.util.TreeSet;
 
 /** Long rows of calls, each answer held against a second, slow reading of the document that keeps nothing found. */
 public final class ModelTest {
-    private static final int RUNS = 400;
+    private static final int RUNS = 200;
     private static final int CALLS = 512;
     private static final int NONE = -1;
     private static final int HIDDEN = -2;

@@ -1,55 +1,6 @@
 /** For each promise: ordinary inputs, the edges that the document names, and wrong inputs. */
-public final class PromisesTest {
-    private static final Class<? extends RuntimeException> INDEX = IndexOutOfBoundsException.class;
-    private static final Class<? extends RuntimeException> ARGUMENT = IllegalArgumentException.class;
-    private static final Class<? extends RuntimeException> STATE = IllegalStateException.class;
-    private static final int NONE = Residentroll.NONE;
-    private static final int HIDDEN = Residentroll.HIDDEN;
-    private static final int TODAY = 10000;
-    private static int wrong = 0;
-    private static int checks = 0;
+public final class PromisesTest extends Checks {
     private static int promise = 0;
-
-    private interface Call {
-        long make();
-    }
-
-    private static void due(long want, long got) {
-        checks++;
-        if (got != want) {
-            wrong++;
-            tellPlace("answered " + got + ", due is " + want);
-        }
-    }
-
-    private static void due(boolean want, boolean got) {
-        due(want ? 1 : 0, got ? 1 : 0);
-    }
-
-    private static void refused(Class<? extends RuntimeException> want, Call call) {
-        checks++;
-        String got;
-        try {
-            got = "answered " + call.make();
-        } catch (RuntimeException e) {
-            got = "threw " + e.getClass().getSimpleName();
-            if (e.getClass() == want) {
-                return;
-            }
-        }
-        wrong++;
-        tellPlace(got + ", due is " + want.getSimpleName());
-    }
-
-    private static void tellPlace(String text) {
-        int line = 0;
-        for (StackTraceElement each : new Throwable().getStackTrace()) {
-            if (line == 0 && each.getMethodName().startsWith("promise")) {
-                line = each.getLineNumber();
-            }
-        }
-        System.out.println("promise " + promise + ", line " + line + ": " + text);
-    }
 
     public static void main(String[] args) {
         for (promise = 1; promise <= 31; promise++) {
@@ -100,21 +51,6 @@ public final class PromisesTest {
             case 30: promise30Look(); break;
             case 31: promise31Looks(); break;
             default: break;
-        }
-    }
-
-    /** As many grown PERSONS as wanted, each alone in a DWELLING, born on the days 0, 100, 200 and so on. */
-    private static Residentroll grown(int many) {
-        Residentroll x = new Residentroll();
-        for (int i = 0; i < many; i++) {
-            x.birth(100 * i, NONE, i % 16, i);
-        }
-        return x;
-    }
-
-    private static void fillActs(Residentroll x, int told) {
-        for (int i = told; i < 150; i++) {
-            due(i, x.move(0, TODAY, 0));
         }
     }
 
@@ -838,12 +774,12 @@ public final class PromisesTest {
         x.join(0, 1);
         due(1, x.bearer(10021));
         int valid = 0;
-        for (int number = 10000; number <= 99999; number += 1) {
+        for (int number = 10000; number <= 99999; number++) {
             int asks = number;
             if (number / 10 >= 1001 && check(number / 10) == number % 10) {
                 valid++;
             } else if (number % 97 == 0 || number < 10100) {
-                refused(ARGUMENT, () -> x.bearer(asks));
+                refused(ARGUMENT, () -> grown(2).bearer(asks));
             }
         }
         due(true, valid > 8000);
